@@ -78,7 +78,7 @@ public final class GroupOrder {
             case 1:
                 return message.to.order.number;
             case 2:
-                return message.kind == START ? BAD : message.from;
+                return message.from;
             case 3:
                 return message.to.group;
             case 4:
@@ -544,6 +544,7 @@ public final class GroupOrder {
 
     private static final class Message {
         final int kind;
+        // BAD for a START: it comes from a client.
         final int from;
         final Part to;
         final int content;

@@ -322,8 +322,8 @@ public final class PromiseTest {
     private void equalTimesTheLesserFirst() {
         promise = "terms";
         GroupOrder x = new GroupOrder(4);
-        // Order 1 gets time 1 in both of its groups; order 0 gets time 2 in group 1 and 1 in
-        // group 0; order 2 gets time 2 in group 0, is final, and waits for order 0.
+        // Order 0 gets time 1 in group 0, but 2 in group 1, where order 1 was first; order 2 gets
+        // time 2 in group 0, is final at once, and waits for order 0, whose final time is 2, too.
         x.send(0, SUM, 0, 1, 0);
         x.send(1, ADD, 1, 0, 7);
         x.send(2, ADD, 0, 0, 9);
@@ -840,27 +840,29 @@ public final class PromiseTest {
         due("count(4)", workedOut, x.count(4));
     }
 
-    /** Forty orders of two groups each, all in flight at once, every message brought. */
+    /** Forty orders of two groups each, and none of their 240 messages ever leaves the flight. */
     private void fullRun() {
         promise = "a full run";
         GroupOrder x = new GroupOrder(4);
         for (int o = 0; o < 40; o++) {
             x.send(o % 4, SWAP, o % 16, (o + 1) % 16, 0);
         }
-        due("flying()", 80, x.flying());
-        // Every START comes while it stays, then every LOCAL: nothing of the 240 is lost.
-        for (int i = 0; i < 80; i++) {
-            x.twice(i);
+        int flying = x.flying();
+        due("STARTs in flight", 80, flying);
+        for (int i = 0; i < flying; i++) {
+            flying = x.twice(i);
         }
-        due("LOCALs that are put", true, x.flying() >= 160);
-        int left = x.flying();
-        for (int k = 0; k < 300 && left > 0; k++) {
-            left = x.bring(left - 1);
-        }
-        due("flying() at the end", 0, x.flying());
+        due("all in flight", 240, flying);
+        due("count(2)", 240, x.count(2));
         due("count(3)", 40, x.count(3));
         due("count(4)", 40, x.count(4));
-        due("count(2)", 80 + 240, x.count(2));
+        due("agree()", true, x.agree());
+        due("bring(239)", 239, x.bring(239));
+        for (int left = 238; left >= 40; left--) {
+            due("bring of one that was there", left, x.bring(left / 2));
+        }
+        due("the last of them", VALUES, x.flight(39, 0));
+        due("count(3)", 40, x.count(3));
         due("agree()", true, x.agree());
     }
 }
