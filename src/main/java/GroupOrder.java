@@ -108,17 +108,19 @@ public final class GroupOrder {
     }
 
     public int time(int order, int group, int what) {
-        Part part = hasOrder(order) && isGroup(group) ? groups[group].parts[order] : null;
-        if (part == null) {
+        if (!hasOrder(order) || !isGroup(group)) {
             return BAD;
         }
+        // A group that is none of the order's has no time of it, but has not worked it out either:
+        // that question always has an answer.
+        Part part = groups[group].parts[order];
         switch (what) {
             case 0:
-                return part.localTime;
+                return part != null ? part.localTime : BAD;
             case 1:
-                return part.finalTime;
+                return part != null ? part.finalTime : BAD;
             case 2:
-                return part.isWorkedOut ? 1 : 0;
+                return part != null && part.isWorkedOut ? 1 : 0;
             default:
                 return BAD;
         }

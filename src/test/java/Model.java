@@ -264,7 +264,7 @@ final class Model {
     }
 
     int time(int order, int group, int what) {
-        if (order < 0 || order >= orders.size() || !orders.get(order).groups.contains(group)) {
+        if (order < 0 || order >= orders.size() || group < 0 || group >= n) {
             return BAD;
         }
         Keeper keeper = keepers.get(group);

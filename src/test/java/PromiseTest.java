@@ -690,6 +690,7 @@ public final class PromiseTest {
             due("time(1, 0, " + what + ") at first", BAD, x.time(1, 0, what));
         }
         due("worked out at first", 0, x.time(1, 0, 2));
+        times(x, 0, 0, new int[] {BAD, BAD, 0});
         x.bring(0);
         times(x, 0, 1, new int[] {1, 1, 1});
         x.bring(1);
@@ -705,12 +706,19 @@ public final class PromiseTest {
         times(x, 1, 0, new int[] {1, 2, 0});
         x.bring(0);
         times(x, 1, 0, new int[] {1, 2, 1});
-        // A group that is none of the order's, and other numbers that are none.
-        times(x, 1, 2, new int[] {BAD, BAD, BAD});
-        times(x, 0, 0, new int[] {BAD, BAD, BAD});
+        // A group that is none of the order's has no times of it, and never works it out.
+        times(x, 1, 2, new int[] {BAD, BAD, 0});
+        times(x, 0, 0, new int[] {BAD, BAD, 0});
+        times(x, 0, 2, new int[] {BAD, BAD, 0});
+        for (int wrong : new int[] {LEAST, -1, 3, 40, MOST}) {
+            due("time(0, 2, " + wrong + ")", BAD, x.time(0, 2, wrong));
+        }
+        // An order that was not sent, a group that is not there, another number.
+        times(x, 2, 0, new int[] {BAD, BAD, BAD});
         for (int wrong : new int[] {LEAST, -1, 3, 40, MOST}) {
             times(x, wrong, 0, new int[] {BAD, BAD, BAD});
             times(x, 0, wrong, new int[] {BAD, BAD, BAD});
+            times(x, 2, wrong, new int[] {BAD, BAD, BAD});
             due("time(0, 1, " + wrong + ")", BAD, x.time(0, 1, wrong));
         }
     }
