@@ -2,12 +2,18 @@
 final class Checks {
     private int wrong = 0;
     private int made = 0;
+    private String sentence = "";
+
+    /** Names the sentence of the document that the answers from here on belong to. */
+    void about(String sentence) {
+        this.sentence = sentence + ": ";
+    }
 
     void due(String call, long want, long got) {
         made++;
         if (got != want) {
             wrong++;
-            System.out.println(call + " answered " + got + ", due is " + want);
+            System.out.println(sentence + call + " answered " + got + ", due is " + want);
         }
     }
 
