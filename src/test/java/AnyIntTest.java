@@ -49,7 +49,8 @@ public final class AnyIntTest {
             forty(state - 8);
             return;
         }
-        // Behind two, four and six messages the order is started, taken and worked out.
+        // The first order is started in both groups behind two messages, taken behind four, and
+        // worked out behind six; the START of the second stays in flight.
         int[] brought = {0, 0, 1, 3, 4, 5, 6, 2};
         if (state > 0) {
             pair.send(0, 1, 0, 1, 30);
