@@ -1,4 +1,5 @@
 import java.util.ArrayList;
+import java.util.Arrays;
 import java.util.HashMap;
 import java.util.List;
 import java.util.Map;
@@ -297,5 +298,23 @@ final class Model {
         long workedOut = orders.stream().filter(sent -> sent.groups.stream()
                 .allMatch(g -> keepers.get(g).workedOut.contains(sent.number))).count();
         return new int[] {n, orders.size(), brought, (int) answered, (int) workedOut}[what];
+    }
+
+    /** All that later answers hang on, but how many messages were brought. */
+    String tell() {
+        StringBuilder told = new StringBuilder(Arrays.toString(clientTimes));
+        for (Sent sent : orders) {
+            told.append(sent.clientTime).append('/').append(sent.answer).append(';');
+        }
+        for (Letter letter : flying) {
+            told.append(letter.kind).append(letter.order).append(letter.from).append(letter.to)
+                    .append(letter.local).append(letter.values);
+        }
+        for (Keeper keeper : keepers) {
+            told.append(keeper.clock).append(keeper.up).append(keeper.values).append(keeper.started)
+                    .append(keeper.locals).append(keeper.finals).append(keeper.taken)
+                    .append(keeper.valuesSent).append(keeper.others).append(keeper.workedOut);
+        }
+        return told.toString();
     }
 }

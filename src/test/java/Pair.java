@@ -15,6 +15,11 @@ final class Pair {
         model = new Model(groups);
     }
 
+    /** All that later answers hang on, as the model has it. */
+    String tell() {
+        return model.tell();
+    }
+
     int callsLeft() {
         return MOST_CALLS - calls;
     }
